@@ -1,0 +1,32 @@
+/** Counts and prints the answers that are not as due. */
+final class Due {
+    private final String test;
+    private String part = "";
+    private int asked;
+    private int wrong;
+
+    Due(String test) {
+        this.test = test;
+    }
+
+    void part(String name) {
+        part = name;
+    }
+
+    void is(String call, long got, long want) {
+        asked++;
+        if (got != want) {
+            wrong++;
+            if (wrong <= 50) {
+                System.out.println(test + ", " + part + ": " + call + " answered " + got + ", due is " + want);
+            }
+        }
+    }
+
+    void end() {
+        System.out.println(test + ": " + asked + " answers, " + wrong + " not as due");
+        if (wrong != 0 || asked == 0) {
+            System.exit(1);
+        }
+    }
+}
