@@ -208,6 +208,16 @@ public final class ClockTest {
         // 600 and 10 are out of bounds: which step is first depends on where one is.
         rowIs(200, 300, bits(2, 6, 8, 13), 206, 806);
         rowIs(20, 30, bits(2, 6, 8, 13), 806, 206);
+        // 20 and 400 are within, as an end and on the way.
+        rowIs(40, 20, ALL, 4);
+        rowIs(20, 40, ALL, 400);
+        rowIs(320, 20, bits(8, 12), 812, 812, 812, 812);
+        rowIs(100, 400, ALL, 800);
+        rowIs(400, 25, bits(8, 12), 812, 812, 812, 812);
+        rowIs(25, 400, bits(8, 12), 1208, 1208, 1208, 1208);
+        rowIs(40, 30, bits(2, 6, 8, 13), 206, 806, 206);
+        rowIs(200, 75, bits(2, 6, 8, 13), 206, 206, 206, 806);
+        noRow(38, 57, bits(2, 6));
         noRow(60, 61, ALL);
         noRow(20, 400, ALL);
         noRow(60, 90, 0);

@@ -259,15 +259,18 @@ public final class SectionsTest {
         x.tie(2, 8, 0, 8, 5);
         x.tie(1, 10, 0, 8, 5);
         x.tie(1, 8, 0, 9, 5);
+        // From 0 to 1 not by 3 to 4, not by 1 to 2.
+        x.tie(0, 8, 1, 14, 5);
+        x.tie(0, 8, 1, 12, 5);
         int[][] due = {
-            {0, 8, 1, 10, 3, 0}, {2, 4, 1, 12, 0, 0}, {0, 16, 2, 10, 9, 1},
-            {2, 8, 0, 8, 5, 2}, {1, 10, 0, 8, 5, 1}, {1, 8, 0, 9, 5, 1}};
+            {0, 8, 1, 10, 3, 0}, {2, 4, 1, 12, 0, 0}, {0, 16, 2, 10, 9, 1}, {2, 8, 0, 8, 5, 2},
+            {1, 10, 0, 8, 5, 1}, {1, 8, 0, 9, 5, 1}, {0, 8, 1, 14, 5, 2}, {0, 8, 1, 12, 5, 2}};
         for (int k = 0; k < due.length; k++) {
             for (int what = 0; what < 6; what++) {
                 DUE.is("ofTie(" + k + ", " + what + ")", x.ofTie(k, what), due[k][what]);
             }
         }
-        for (int wrong : new int[] {6, -1, 12, MIN, MAX}) {
+        for (int wrong : new int[] {8, -1, 12, MIN, MAX}) {
             DUE.is("ofTie(" + wrong + ", 0)", x.ofTie(wrong, 0), -1);
             DUE.is("ofTie(" + wrong + ", 6), UNKNOWN first", x.ofTie(wrong, 6), -1);
             DUE.is("ofTie(0, " + wrong + ")", x.ofTie(0, wrong), -2);
