@@ -217,6 +217,9 @@ public final class ClockTest {
         rowIs(25, 400, bits(8, 12), 1208, 1208, 1208, 1208);
         rowIs(40, 30, bits(2, 6, 8, 13), 206, 806, 206);
         rowIs(200, 75, bits(2, 6, 8, 13), 206, 206, 206, 806);
+        // A third of 30 and a quarter of it are too slow, those of 300 are not.
+        rowIs(30, 20, bits(2, 4, 10, 14), 1004, 1014);
+        rowIs(300, 200, bits(2, 4, 10, 14), 204, 1410);
         noRow(38, 57, bits(2, 6));
         noRow(60, 61, ALL);
         noRow(20, 400, ALL);
