@@ -177,6 +177,7 @@ final class Model {
     }
 
     private Map<Integer, Integer> kindsSeen = new HashMap<>();
+    private Map<Integer, Share> ratiosSeen = new HashMap<>();
 
     private int kind(int k) {
         Integer seen = kindsSeen.get(k);
@@ -203,6 +204,7 @@ final class Model {
     /** To be called behind each call that changes anything. */
     void changed() {
         kindsSeen = new HashMap<>();
+        ratiosSeen = new HashMap<>();
         bestRow = null;
     }
 
@@ -210,8 +212,17 @@ final class Model {
         return way(a, b, ties.size(), -1);
     }
 
+    /** RATIO from SECTION 0, or null; kept, as it is asked for by every START. */
+    private Share ratioTo(int s) {
+        if (!ratiosSeen.containsKey(s)) {
+            List<Integer> way = way(0, s);
+            ratiosSeen.put(s, way == null ? null : along(0, way));
+        }
+        return ratiosSeen.get(s);
+    }
+
     private boolean joined(int a, int b) {
-        return way(a, b) != null;
+        return a == 0 ? ratioTo(b) != null : way(a, b) != null;
     }
 
     private Share tempoOf(int s) {
@@ -219,7 +230,7 @@ final class Model {
     }
 
     private Share tempoOf(int s, int byStart) {
-        return Share.of(byStart, 1).times(along(0, way(0, s)));
+        return Share.of(byStart, 1).times(ratioTo(s));
     }
 
     int ofSection(int s, int what) {
@@ -433,9 +444,11 @@ final class Model {
         if (out(q, 20, 400) || out(k, -1, 399)) return OUTSIDE;
         if (!joined(0, s)) return STATE;
         List<Integer> twos = new ArrayList<>();
+        Share tempo = tempoOf(s);
+        Share wanted = Share.of(q, 1);
         for (int v = 0; v < 20; v++) {
             for (int w = 0; w < 20; w++) {
-                if (tempoOf(s).times(Share.of(ticks(w), ticks(v))).equals(Share.of(q, 1))) twos.add(100 * v + w);
+                if (tempo.times(Share.of(ticks(w), ticks(v))).equals(wanted)) twos.add(100 * v + w);
             }
         }
         if (k == -1) return twos.size();
