@@ -14,8 +14,12 @@ final class Due {
     }
 
     void is(String call, long got, long want) {
+        is(call, String.valueOf(got), String.valueOf(want));
+    }
+
+    void is(String call, String got, String want) {
         asked++;
-        if (got != want) {
+        if (!got.equals(want)) {
             wrong++;
             if (wrong <= 50) {
                 System.out.println(test + ", " + part + ": " + call + " answered " + got + ", due is " + want);
